@@ -1754,41 +1754,30 @@ public final class BodyCorners {
             return NONE;
         }
 
+        /** An i ahead is answered by a k that lacks one CORNER alone, and one that FACET i lacks, too. */
         private boolean meetsAt(Solid solid, int j) {
             int[] sets = solid.facetSets();
-            int own = sets[facets[j]];
+            int spared = sparedAt(solid, j);
             for (int i = 0; i < j; i++) {
-                if (!isCovered(solid, j, own & sets[facets[i]])) {
+                if ((spared & ~sets[facets[i]]) == 0) {
                     return false;
                 }
             }
             return true;
         }
 
-        /** Whether the common part lies in one ahead that has all but one CORNER of FACET j. */
-        private boolean isCovered(Solid solid, int j, int common) {
-            int[] sets = solid.facetSets();
-            int own = sets[facets[j]];
-            for (int k = 0; k < j; k++) {
-                int other = sets[facets[k]];
-                if ((common & ~other) == 0 && Integer.bitCount(own & other) == solid.dim - 1) {
-                    return true;
-                }
-            }
-            return false;
-        }
-
         int placesWithNew(Solid solid, int wanted) {
             int found = 0;
             for (int j = 0; j < held; j++) {
-                if (newAt(solid, j) == wanted) {
+                if (Integer.bitCount(sparedAt(solid, j)) == wanted) {
                     found++;
                 }
             }
             return found;
         }
 
-        private int newAt(Solid solid, int j) {
+        /** The CORNERS of FACET j without which it lies in a FACET ahead. */
+        private int sparedAt(Solid solid, int j) {
             int[] sets = solid.facetSets();
             int own = sets[facets[j]];
             int spared = 0;
@@ -1798,7 +1787,7 @@ public final class BodyCorners {
                     spared |= missing;
                 }
             }
-            return Integer.bitCount(spared);
+            return spared;
         }
     }
 
