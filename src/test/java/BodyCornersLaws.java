@@ -57,10 +57,12 @@ public final class BodyCornersLaws {
         for (int j = 0; j < x.faces(i, 1); j++) {
             due(name + " an edge has two corners", x.lies(i, 1, j, 0), 2);
         }
-        int last = -1;
-        for (int j = 0; j < x.faces(i, d - 1); j++) {
-            due(name + " facets by their sets", x.face(i, d - 1, j) > last ? 1 : 0, 1);
-            last = x.face(i, d - 1, j);
+        for (int k = 0; k < d; k++) {
+            int last = 0;
+            for (int j = 0; j < x.faces(i, k); j++) {
+                due(name + " cells by their sets", x.face(i, k, j) > last ? 1 : 0, 1);
+                last = x.face(i, k, j);
+            }
         }
         if (x.about(i, 3) == 1) {
             int all = 0;

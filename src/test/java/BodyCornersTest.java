@@ -187,9 +187,32 @@ public final class BodyCornersTest {
         due("a cut of a cut has its own SCALE", x.about(x.cut(4, 1, 0, 0, 0, 1), 2), 1);
         int primes = make(x, 2, 0, 0, 997, 1, 991, 2, 983, 4, 977, 7, 900, 90);
         due("SCALES that run away", x.cut(primes, 9, 1, 0, 0, 7000), LARGE);
+        int through = x.cut(1, 1, 1, 1, 1, 2);
+        due("an edge that ends on it is not cut", x.about(through, 1), 11);
+        due("whole already", x.about(through, 2), 1);
+        int[][] wides = {{999, 0, 0, 0}, {0, 999, 0, 0}, {0, 0, 999, 0}, {0, 0, 0, -999}};
+        for (int k = 0; k < 4; k++) {
+            int[] a = {0, 0, 0, 0};
+            a[(k + 1) % 4] = 2;
+            int[] w = wides[k];
+            int slim = make(x, 4, 0, 0, 0, 0, k == 0 ? w[0] : 1, 0, 0, 0, 0, k == 1 ? w[1] : 1, 0, 0,
+                    0, 0, k == 2 ? w[2] : 1, 0, 0, 0, 0, k == 3 ? w[3] : 1);
+            due("LARGE by coordinate " + k + " alone", x.cut(slim, a[0], a[1], a[2], a[3], 1), LARGE);
+        }
         BodyCorners full = fullOf("cube 2;");
+        due("FULL comes before LARGE", fullAndWide().cut(23, 0, 2, 0, 0, 1), FULL);
         due("FULL", full.cut(0, 1, 1, 0, 0, 1), FULL);
         due("NOT first", full.cut(0, 1, 1, 0, 0, 0), NOT);
+    }
+
+    /** All 24 BODIES, the last one so wide that a CUT or a DOUBLE of it is LARGE. */
+    private static BodyCorners fullAndWide() {
+        BodyCorners x = new BodyCorners();
+        while (x.count(0) < 23) {
+            readAll(x, "corner 2;");
+        }
+        make(x, 2, 0, 0, 999, 0, 0, 1);
+        return x;
     }
 
     private static void slices() {
@@ -220,6 +243,12 @@ public final class BodyCornersTest {
         dueCorner(x, 7, 3, 1, 18);
         int slim = make(x, 3, 0, 0, 0, 999, 0, 0, 0, 999, 0, 0, 0, 7);
         due("LARGE", x.slice(slim, 2, 1), LARGE);
+        int needle = make(x, 3, 0, 0, 0, 1, 0, 900, 0, 1, 899, 0, 0, 500);
+        int tip = x.slice(needle, 2, 1);
+        due("a great SCALE", x.about(tip, 2), 809100);
+        dueCorner(x, tip, 0, 899, 0);
+        dueCorner(x, tip, 1, 0, 900);
+        dueCorner(x, tip, 2, 0, 0);
         BodyCorners full = fullOf("cube 3;");
         due("NOT comes before FULL", full.slice(0, 0, 5), NOT);
         due("FULL", full.slice(0, 0, 1), FULL);
@@ -238,6 +267,17 @@ public final class BodyCornersTest {
         due("the middle is no corner", x.about(4, 1), 6);
         dueCorner(x, 4, 2, 0, 1, 0);
         dueCorner(x, 4, 5, 0, 0, -1);
+        readAll(x, "round 4 of 6;");
+        int[][] left = {{9, 27, 81}, {3, 27, 81}, {3, 9, 81}, {3, 9, 27}};
+        for (int k = 0; k < 4; k++) {
+            int of = x.shadow(5, k);
+            due("without " + k, x.about(of, 1), 6);
+            dueCorner(x, of, 3, left[k]);
+        }
+        due("SCALE of a shadow", x.about(3, 2), 1);
+        int part = x.cut(0, 2, 0, 0, 0, 1);
+        due("SCALE of its cut", x.about(part, 2), 2);
+        due("SCALE of a shadow of that", x.about(x.shadow(part, 2), 2), 1);
         due("FULL", fullOf("cube 3;").shadow(0, 0), FULL);
         due("OUTSIDE comes before FULL", fullOf("cube 3;").shadow(0, 3), OUTSIDE);
     }
@@ -273,9 +313,9 @@ public final class BodyCornersTest {
         int wider = make(x, 2, 0, 0, 334, 0, 0, -333);
         due("1002", x.raise(wider, 2, 1), LARGE);
         due("no bound for a PRISM", x.raise(wider, 0, 1), 13);
-        BodyCorners full = fullOf("cube 2;");
-        full.point(0, 0, 0, 0);
-        due("FULL comes before LARGE", full.raise(0, 2, 1), FULL);
+        due("FULL", fullOf("cube 2;").raise(0, 1, 1), FULL);
+        due("FULL comes before LARGE", fullAndWide().raise(23, 2, 1), FULL);
+        due("OUTSIDE comes before FULL", fullOf("cube 2;").raise(0, 1, 0), OUTSIDE);
     }
 
     private static void products() {
@@ -292,6 +332,7 @@ public final class BodyCornersTest {
         dueCorner(x, 5, 11, 0, 1, 1, 1);
         due("two squares", x.product(1, 1), 6);
         due("like a cube of 4", x.same(6, 4), 1);
+        due("SCALE of a product", x.about(6, 2), 1);
         BodyCorners full = fullOf("cube 2; cube 3;");
         due("FULL", full.product(0, 0), FULL);
         due("OUTSIDE comes before FULL", full.product(0, 1), OUTSIDE);
@@ -309,6 +350,7 @@ public final class BodyCornersTest {
         dueCorner(x, 6, 4, 1, 0, 1);
         dueCorner(x, 6, 7, -1, 0, 0);
         due("with itself", x.both(0, 0), 7);
+        due("SCALE of both", x.about(7, 2), 1);
         due("alike ones once", x.about(7, 1), 8);
         due("16 alike ones are not too many", x.both(3, 3), 8);
         due("inner ones fall away", x.about(x.both(5, 0), 1), 8);
@@ -723,6 +765,9 @@ public final class BodyCornersTest {
         due("two ways", x.ups(0, 1, 7), 2);
         due("not down", x.ups(0, 15, 0), 0);
         due("to itself", x.ups(0, 15, 15), 1);
+        x.tilt(-1, -2, -4, -8);
+        due("down by the numbers", x.ups(0, 15, 0), 24);
+        due("part of the way", x.ups(0, 14, 4), 2);
         x.tilt(1, 0, 0, 0);
         due("each beside each", x.ups(1, 0, 5), 16);
         due("over the four in the middle", x.ups(2, 1, 0), 4);
@@ -984,10 +1029,10 @@ public final class BodyCornersTest {
         readAll(drafting, "round 3 of 4;");
         due("the draft stays", drafting.count(1), 1);
         dueCorner(drafting, 0, 3, 3, 9, 27);
-        BodyCorners crowd = with("cube 2;cube 2;cube 2;cube 2;cube 2;cube 2;cube 2;cube 2;cube 2;cube 2;cube 2;cube 2;");
+        due("26 clauses, 24 of them done", readAll(new BodyCorners(), "cube2;".repeat(26)), 24);
+        BodyCorners crowd = with("cube 2;".repeat(12));
         due("twelve", crowd.count(0), 12);
-        due("26 of the shortest", readAll(crowd, "cube2;cube2;cube2;cube2;cube2;cube2;cube2;cube2;cube2;cube2;cube2;cube2;"
-                + "cube2;cube2;cube2;cube2;cube2;cube2;cube2;cube2;cube2;cube2;cube2;cube2;cube2;cube2;"), 12);
+        due("26 of the shortest", readAll(crowd, "cube2;".repeat(26)), 12);
     }
 
     private static void faults() {
@@ -1035,6 +1080,8 @@ public final class BodyCornersTest {
         due("less", y.claim(1), 100);
         due("more", y.claim(2), 100);
         due("just", y.claim(3), 0);
+        readAll(y, "cube 2;");
+        due("of that body alone", y.claim(3), 0);
     }
 
     public static void main(String[] args) {
