@@ -199,6 +199,10 @@ public final class BodyCornersTest {
                     0, 0, k == 2 ? w[2] : 1, 0, 0, 0, 0, k == 3 ? w[3] : 1);
             due("LARGE by coordinate " + k + " alone", x.cut(slim, a[0], a[1], a[2], a[3], 1), LARGE);
         }
+        BodyCorners bow = with("round 2 of 16;");
+        due("16 points", bow.cut(0, 1, 0, 0, 0, 14), 1);
+        due("of them 16 corners", bow.about(1, 1), 16);
+        due("17 points", bow.cut(0, 2, 0, 0, 0, 29), FULL);
         BodyCorners full = fullOf("cube 2;");
         due("FULL comes before LARGE", fullAndWide().cut(23, 0, 2, 0, 0, 1), FULL);
         due("FULL", full.cut(0, 1, 1, 0, 0, 1), FULL);
@@ -584,6 +588,10 @@ public final class BodyCornersTest {
         due("a part in one", x.place(3), 2);
         setAll(x, 5, 7, 11, 13, 14, 19);
         due("a part in three", x.place(3), 2);
+        setAll(x, 5, 3, 12, 20, 24);
+        due("the first set alone is bare", x.place(2), 2);
+        setAll(x, 5, 12, 20, 24, 3);
+        due("the last set alone is bare", x.place(2), 2);
         setAll(x, 8, 7, 11, 13, 14, 112, 176, 208, 224);
         due("two pieces", x.place(3), 3);
         setAll(x, 7, 11, 13, 22, 26, 44, 52, 88, 104, 49, 81, 98, 35, 69, 70);
@@ -913,6 +921,14 @@ public final class BodyCornersTest {
             due("cross, " + s, x.whole(1, s, 0), cross[s - 1]);
             due("cross inside, " + s, x.whole(1, s, 1), inner[s - 1]);
         }
+        int[][] edges = {{9, 1, 2, 3}, {1, 9, 2, 3}, {1, 2, 9, 3}, {1, 2, 3, 9}};
+        for (int k = 0; k < 4; k++) {
+            int[] e = edges[k];
+            int slim = make(x, 4, 0, 0, 0, 0, e[0], 0, 0, 0, 0, e[1], 0, 0, 0, 0, e[2], 0, 0, 0, 0, e[3],
+                    e[0], e[1], 0, 0, 0, 0, e[2], e[3], e[0], e[1], e[2], 0, e[0], e[1], e[2], e[3]);
+            due("long on axis " + k, x.whole(slim, 2, 0), lookedFor(x, slim, e, 0));
+            due("inside, long on axis " + k, x.whole(slim, 2, 1), lookedFor(x, slim, e, 4));
+        }
         int flat = make(x, 2, -4, 0, 5, 0, -4, 999, 5, 999);
         due("10000 places", x.whole(flat, 1, 0), 10000);
         due("inside", x.whole(flat, 1, 1), 8 * 998);
@@ -922,6 +938,33 @@ public final class BodyCornersTest {
         int over = make(x, 3, 0, 0, 0, 2, 0, 0, 0, 58, 0, 0, 0, 112);
         due("20001 places in the box", x.whole(over, 1, 0), LARGE);
         due("OUTSIDE comes before LARGE", x.whole(over, 1, 2), OUTSIDE);
+    }
+
+    private static BodyCorners twice(BodyCorners x, int i) {
+        BodyCorners y = new BodyCorners();
+        for (int c = 0; c < x.about(i, 1); c++) {
+            y.point(2 * x.corner(i, c, 0), 2 * x.corner(i, c, 1), 2 * x.corner(i, c, 2), 2 * x.corner(i, c, 3));
+        }
+        y.body(4);
+        return y;
+    }
+
+    /** Places of a body stretched by 2 that WHERE says are in it by so much at least, each looked for by itself. */
+    private static int lookedFor(BodyCorners x, int i, int[] ends, int least) {
+        int found = 0;
+        for (int a = 0; a <= 2 * ends[0]; a++) {
+            for (int b = 0; b <= 2 * ends[1]; b++) {
+                BodyCorners y = twice(x, i);
+                for (int c = 0; c <= 2 * ends[2]; c++) {
+                    for (int e = 0; e <= 2 * ends[3]; e++) {
+                        y.wipe();
+                        y.point(a, b, c, e);
+                        found += y.where(0) >= least ? 1 : 0;
+                    }
+                }
+            }
+        }
+        return found;
     }
 
     private static void feeding() {
