@@ -30,69 +30,127 @@ public final class BodyCornersLaws {
         return ways;
     }
 
-    /** Up to 16 points within the reach; NOT bodies are tried again. */
-    private static int makeSome(BodyCorners x, Random random, int d, int points, int reach) {
-        int made = BodyCorners.NOT;
-        for (int tries = 0; tries < 100 && made < 0; tries++) {
-            x.wipe();
+    /** A body told by its corners, number 0 on an object that is made anew long before its 512 calls are used up. */
+    private static final class Told {
+        final int d;
+        final int[] numbers;
+        private BodyCorners x;
+        private int calls;
+
+        Told(int d, int[] numbers) {
+            this.d = d;
+            this.numbers = numbers;
+        }
+
+        /** The object for one call more. */
+        BodyCorners x() {
+            if (x == null || calls >= 400) {
+                x = new BodyCorners();
+                calls = 0;
+                tell(x, this);
+                due("a body of the tests", x.body(d), 0);
+            }
+            calls++;
+            return x;
+        }
+
+        int corners() {
+            return numbers.length / d;
+        }
+    }
+
+    private static void tell(BodyCorners x, Told told) {
+        for (int c = 0; c < told.corners(); c++) {
+            tellOne(x, told, c);
+        }
+    }
+
+    private static void tellOne(BodyCorners x, Told told, int c) {
+        int at = c * told.d;
+        x.point(told.numbers[at], told.numbers[at + 1], told.d > 2 ? told.numbers[at + 2] : 0,
+                told.d > 3 ? told.numbers[at + 3] : 0);
+    }
+
+    /** The corners of a body. */
+    private static Told cornersOf(BodyCorners x, int i) {
+        int d = x.about(i, 0);
+        int[] numbers = new int[x.about(i, 1) * d];
+        for (int at = 0; at < numbers.length; at++) {
+            numbers[at] = x.corner(i, at / d, at % d);
+        }
+        return new Told(d, numbers);
+    }
+
+    /** Up to 16 points within the reach; points that are flat are tried again. */
+    private static Told makeSome(Random random, int d, int points, int reach) {
+        for (int tries = 0; tries < 100; tries++) {
+            BodyCorners x = new BodyCorners();
             for (int p = 0; p < points; p++) {
                 x.point(pick(random, reach), pick(random, reach), pick(random, reach), pick(random, reach));
             }
-            made = x.body(d);
+            if (x.body(d) >= 0) {
+                return cornersOf(x, 0);
+            }
         }
-        return made;
+        throw new IllegalStateException("no body was found");
     }
 
     private static int pick(Random random, int reach) {
         return random.nextInt(2 * reach + 1) - reach;
     }
 
-    private static void countLaws(BodyCorners x, int i, String name) {
-        int d = x.about(i, 0);
-        due(name + " sum", x.sum(i), 1 - sign(d));
-        due(name + " corners", x.faces(i, 0), x.about(i, 1));
-        for (int j = 0; j < x.faces(i, d - 2); j++) {
-            due(name + " a ridge is in two facets", x.lies(i, d - 2, j, d - 1), 2);
+    private static void countLaws(Told t, String name) {
+        int d = t.d;
+        due(name + " sum", t.x().sum(0), 1 - sign(d));
+        due(name + " corners", t.x().faces(0, 0), t.corners());
+        int ridges = t.x().faces(0, d - 2);
+        for (int j = 0; j < ridges; j++) {
+            due(name + " a ridge is in two facets", t.x().lies(0, d - 2, j, d - 1), 2);
         }
-        for (int j = 0; j < x.faces(i, 1); j++) {
-            due(name + " an edge has two corners", x.lies(i, 1, j, 0), 2);
+        int edges = t.x().faces(0, 1);
+        for (int j = 0; j < edges; j++) {
+            due(name + " an edge has two corners", t.x().lies(0, 1, j, 0), 2);
         }
         for (int k = 0; k < d; k++) {
             int last = 0;
-            for (int j = 0; j < x.faces(i, k); j++) {
-                due(name + " cells by their sets", x.face(i, k, j) > last ? 1 : 0, 1);
-                last = x.face(i, k, j);
+            int cells = t.x().faces(0, k);
+            for (int j = 0; j < cells; j++) {
+                int set = t.x().face(0, k, j);
+                due(name + " cells by their sets", set > last ? 1 : 0, 1);
+                last = set;
             }
         }
-        if (x.about(i, 3) == 1) {
+        if (t.x().about(0, 3) == 1) {
             int all = 0;
             for (int k = 0; k <= d; k++) {
-                due(name + " h both ways", x.h(i, k), x.h(i, d - k));
-                all += x.h(i, k);
+                due(name + " h both ways", t.x().h(0, k), t.x().h(0, d - k));
+                all += t.x().h(0, k);
             }
-            due(name + " h in all", all, x.faces(i, d - 1));
+            due(name + " h in all", all, t.x().faces(0, d - 1));
         }
     }
 
     /** What is on the one side of a cut and what is on the other are all of it. */
-    private static void cutLaws(BodyCorners x, int i, Random random, String name) {
-        int d = x.about(i, 0);
+    private static void cutLaws(Told t, Random random, String name) {
+        BodyCorners x = new BodyCorners();
+        tell(x, t);
+        x.body(t.d);
         int[] a = new int[4];
         for (int k = 0; k < 4; k++) {
             a[k] = random.nextInt(5) - 2;
         }
         a[0] = a[0] == 0 ? 1 : a[0];
         int b = random.nextInt(7) - 3;
-        int low = x.cut(i, a[0], a[1], a[2], a[3], b);
-        int high = x.cut(i, -a[0], -a[1], -a[2], -a[3], -b);
+        int low = x.cut(0, a[0], a[1], a[2], a[3], b);
+        int high = x.cut(0, -a[0], -a[1], -a[2], -a[3], -b);
         if (low >= 0 && high >= 0) {
-            long lowScale = power(x.about(low, 2), d);
-            long highScale = power(x.about(high, 2), d);
-            due(name + " cut in two", x.size(low) * highScale + x.size(high) * lowScale, x.size(i) * lowScale * highScale);
-            countLaws(x, low, name + " its lower part");
+            long lowScale = power(x.about(low, 2), t.d);
+            long highScale = power(x.about(high, 2), t.d);
+            due(name + " cut in two", x.size(low) * highScale + x.size(high) * lowScale, x.size(0) * lowScale * highScale);
+            countLaws(cornersOf(x, low), name + " its lower part");
         }
         if (low == BodyCorners.NOT && high >= 0) {
-            due(name + " all is above", x.size(high), x.size(i));
+            due(name + " all is above", x.size(high), x.size(0));
         }
     }
 
@@ -105,12 +163,12 @@ public final class BodyCornersLaws {
     }
 
     /** Whole places of a body stretched by s are a polynomial in s; its first number is the size, turned it is the inside. */
-    private static void wholeLaws(BodyCorners x, int i, String name) {
-        int d = x.about(i, 0);
+    private static void wholeLaws(Told t, String name) {
+        int d = t.d;
         long[] at = new long[d + 1];
         at[0] = 1;
         for (int s = 1; s <= d; s++) {
-            at[s] = x.whole(i, s, 0);
+            at[s] = t.x().whole(0, s, 0);
             if (at[s] < 0) {
                 return;
             }
@@ -121,8 +179,8 @@ public final class BodyCornersLaws {
             difference += sign(d - s) * over(d, s) * at[s];
             before += sign(s) * over(d + 1, s + 1) * at[s];
         }
-        due(name + " size by whole places", difference, x.size(i));
-        due(name + " inside by whole places", x.whole(i, 1, 1), sign(d) * before);
+        due(name + " size by whole places", difference, t.x().size(0));
+        due(name + " inside by whole places", t.x().whole(0, 1, 1), sign(d) * before);
     }
 
     /** All renamings tried one by one. */
@@ -153,15 +211,14 @@ public final class BodyCornersLaws {
         return all;
     }
 
-    private static void turnLaws(BodyCorners x, int i, Random random, String name) {
-        int d = x.about(i, 0);
-        int n = x.about(i, 1);
-        int[] facets = new int[x.faces(i, d - 1)];
+    private static void turnLaws(Told t, Random random, String name) {
+        int n = t.corners();
+        int[] facets = new int[t.x().faces(0, t.d - 1)];
         for (int f = 0; f < facets.length; f++) {
-            facets[f] = x.face(i, d - 1, f);
+            facets[f] = t.x().face(0, t.d - 1, f);
         }
         if (n <= 7) {
-            due(name + " turns", x.about(i, 5), turnsByTrying(facets, new int[n], 0, 0));
+            due(name + " turns", t.x().about(0, 5), turnsByTrying(facets, new int[n], 0, 0));
         }
         int[] order = new int[n];
         for (int c = 0; c < n; c++) {
@@ -169,79 +226,86 @@ public final class BodyCornersLaws {
             order[c] = order[to];
             order[to] = c;
         }
-        x.wipe();
-        for (int c : order) {
-            x.point(x.corner(i, c, 0), -x.corner(i, c, 1), d > 2 ? x.corner(i, c, 2) : 0, d > 3 ? x.corner(i, c, 3) : 0);
+        int[] turned = new int[n * t.d];
+        for (int at = 0; at < turned.length; at++) {
+            int number = t.numbers[order[at / t.d] * t.d + at % t.d];
+            turned[at] = at % t.d == 1 ? -number : number;
         }
-        int mirrored = x.body(d);
-        due(name + " its mirror image", x.same(i, mirrored), 1);
-        due(name + " its size", x.size(mirrored), x.size(i));
-        due(name + " its turns", x.about(mirrored, 5), x.about(i, 5));
+        BodyCorners x = new BodyCorners();
+        tell(x, t);
+        x.body(t.d);
+        tell(x, new Told(t.d, turned));
+        int mirrored = x.body(t.d);
+        due(name + " its mirror image", x.same(0, mirrored), 1);
+        due(name + " its size", x.size(mirrored), x.size(0));
+        due(name + " its turns", x.about(mirrored, 5), x.about(0, 5));
     }
 
-    private static void placeLaws(BodyCorners x, int i, String name) {
-        int d = x.about(i, 0);
-        x.wipe();
-        for (int c = 0; c < x.about(i, 1); c++) {
+    private static void placeLaws(Told t, String name) {
+        for (int c = 0; c < t.corners(); c++) {
+            BodyCorners x = t.x();
             x.wipe();
-            x.point(x.corner(i, c, 0), x.corner(i, c, 1), d > 2 ? x.corner(i, c, 2) : 0, d > 3 ? x.corner(i, c, 3) : 0);
-            due(name + " a corner", x.where(i), 0);
-            due(name + " not parted", x.parted(i), BodyCorners.NONE);
+            tellOne(x, t, c);
+            due(name + " a corner", x.where(0), 0);
+            due(name + " not parted", x.parted(0), BodyCorners.NONE);
         }
-        due(name + " holds itself", x.holds(i, i), x.about(i, 1));
+        due(name + " holds itself", t.x().holds(0, 0), t.corners());
         long all = 0;
-        int pieces = x.about(i, 6);
+        int pieces = t.x().about(0, 6);
         for (int p = 0; p < pieces; p++) {
-            due(name + " corners of a piece", Long.bitCount(x.piece(i, p, 0)), d + 1);
-            all += x.piece(i, p, 1);
+            due(name + " corners of a piece", Long.bitCount(t.x().piece(0, p, 0)), t.d + 1);
+            all += t.x().piece(0, p, 1);
         }
-        due(name + " pieces in all", all, x.size(i));
+        due(name + " pieces in all", all, t.x().size(0));
     }
 
     private static void someBodies() {
         Random random = new Random(20261118);
         for (int round = 0; round < 150; round++) {
-            BodyCorners x = new BodyCorners();
             int d = 2 + round % 3;
             int points = d + 1 + random.nextInt(round % 5 == 0 ? 16 - d : 6);
             int reach = round % 4 == 0 ? 1 : round % 4 == 1 ? 3 : round % 4 == 2 ? 6 : 999;
-            int i = makeSome(x, random, d, points, reach);
+            Told t = makeSome(random, d, points, reach);
             String name = "body " + round;
-            due(name, i, 0);
-            countLaws(x, i, name);
-            wholeLaws(x, i, name);
-            turnLaws(x, i, random, name);
-            placeLaws(x, i, name);
-            cutLaws(x, i, random, name);
-            int raised = x.raise(i, round % 3, 1 + random.nextInt(3));
+            countLaws(t, name);
+            wholeLaws(t, name);
+            turnLaws(t, random, name);
+            placeLaws(t, name);
+            cutLaws(t, random, name);
+            BodyCorners x = new BodyCorners();
+            tell(x, t);
+            x.body(d);
+            int raised = x.raise(0, round % 3, 1 + random.nextInt(3));
             if (raised >= 0) {
-                countLaws(x, raised, name + " raised");
-                placeLaws(x, raised, name + " raised");
+                Told r = cornersOf(x, raised);
+                countLaws(r, name + " raised");
+                placeLaws(r, name + " raised");
             }
         }
     }
 
     /** Sixteen points as round as can be have all the cells that there can be. */
-    private static BodyCorners roundest() {
-        BodyCorners x = new BodyCorners();
+    private static Told roundest() {
+        int[] numbers = new int[64];
         for (int p = 0; p < 16; p++) {
             double t = Math.PI * ((5 * p) % 16) / 8;
-            x.point((int) Math.rint(999 * Math.cos(t)), (int) Math.rint(999 * Math.sin(t)),
-                    (int) Math.rint(999 * Math.cos(2 * t)), (int) Math.rint(999 * Math.sin(2 * t)));
+            numbers[4 * p] = (int) Math.rint(999 * Math.cos(t));
+            numbers[4 * p + 1] = (int) Math.rint(999 * Math.sin(t));
+            numbers[4 * p + 2] = (int) Math.rint(999 * Math.cos(2 * t));
+            numbers[4 * p + 3] = (int) Math.rint(999 * Math.sin(2 * t));
         }
-        x.body(4);
-        return x;
+        return new Told(4, numbers);
     }
 
     private static void mostCells() {
-        BodyCorners x = roundest();
+        Told t = roundest();
         int[] want = {16, 120, 208, 104};
         for (int k = 0; k < 4; k++) {
-            due("most cells of " + k, x.faces(0, k), want[k]);
+            due("most cells of " + k, t.x().faces(0, k), want[k]);
         }
-        due("turns of the roundest", x.about(0, 5), 32);
-        countLaws(x, 0, "roundest");
-        placeLaws(x, 0, "roundest");
+        due("turns of the roundest", t.x().about(0, 5), 32);
+        countLaws(t, "roundest");
+        placeLaws(t, "roundest");
     }
 
     private static int wild(Random random) {
@@ -301,19 +365,24 @@ public final class BodyCornersLaws {
     }
 
     private static void feedWord(BodyCorners x, Random random) {
-        String[] words = {"cube ", "cross 3;", "round 3", " of 9;", "corner 4;", "claim ", "all ", "faces 1", "<9;", ";", "77"};
-        for (char sign : words[random.nextInt(words.length)].toCharArray()) {
-            x.feed(1, sign);
+        String[] words = {"cube ", "cross 3;", "round 3", " of 9;", "corner4;", "claim ", "all ", "faces 1", "<9;", ";", "77"};
+        String word = words[random.nextInt(words.length)];
+        long packed = 0;
+        for (char sign : word.toCharArray()) {
+            packed = packed << 8 | sign;
         }
+        x.feed(word.length(), packed);
     }
 
     private static void wildCalls() {
         Random random = new Random(7);
         for (int run = 0; run < 400; run++) {
             BodyCorners x = new BodyCorners();
-            makeSome(x, random, 2 + run % 3, 5 + run % 9, 9);
-            for (int call = 0; call < 500; call++) {
-                if (random.nextInt(6) == 0) {
+            Told t = makeSome(random, 2 + run % 3, 5 + run % 9, 9);
+            tell(x, t);
+            x.body(t.d);
+            for (int call = 0; call < 400; call++) {
+                if (call % 6 == 0) {
                     feedWord(x, random);
                 }
                 wildCall(x, random, random.nextInt(42));
@@ -326,11 +395,10 @@ public final class BodyCornersLaws {
     private static void room() {
         ThreadMXBean machine = (ThreadMXBean) ManagementFactory.getThreadMXBean();
         long thread = Thread.currentThread().getId();
-        BodyCorners x = roundest();
-        x.product(0, 0);
+        BodyCorners x = roundest().x();
         for (int round = 0; round < 2; round++) {
             long before = machine.getThreadAllocatedBytes(thread);
-            for (int call = 0; call < 50; call++) {
+            for (int call = 0; call < 20; call++) {
                 x.about(0, 5);
                 x.about(0, 6);
                 x.same(0, 0);

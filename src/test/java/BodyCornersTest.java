@@ -940,21 +940,23 @@ public final class BodyCornersTest {
         due("OUTSIDE comes before LARGE", x.whole(over, 1, 2), OUTSIDE);
     }
 
-    private static BodyCorners twice(BodyCorners x, int i) {
-        BodyCorners y = new BodyCorners();
-        for (int c = 0; c < x.about(i, 1); c++) {
-            y.point(2 * x.corner(i, c, 0), 2 * x.corner(i, c, 1), 2 * x.corner(i, c, 2), 2 * x.corner(i, c, 3));
+    /** A body stretched by 2, as its numbers. */
+    private static int[] twice(BodyCorners x, int i) {
+        int[] numbers = new int[4 * x.about(i, 1)];
+        for (int at = 0; at < numbers.length; at++) {
+            numbers[at] = 2 * x.corner(i, at / 4, at % 4);
         }
-        y.body(4);
-        return y;
+        return numbers;
     }
 
     /** Places of a body stretched by 2 that WHERE says are in it by so much at least, each looked for by itself. */
     private static int lookedFor(BodyCorners x, int i, int[] ends, int least) {
         int found = 0;
+        int[] numbers = twice(x, i);
         for (int a = 0; a <= 2 * ends[0]; a++) {
             for (int b = 0; b <= 2 * ends[1]; b++) {
-                BodyCorners y = twice(x, i);
+                BodyCorners y = new BodyCorners();
+                make(y, 4, numbers);
                 for (int c = 0; c <= 2 * ends[2]; c++) {
                     for (int e = 0; e <= 2 * ends[3]; e++) {
                         y.wipe();
