@@ -378,6 +378,49 @@ public final class BodyCornersEdges {
         places("one in the other", y, y.both(0, 2), 1, 0, 0, 0, 1, 0, 0, 0, 1, -1, 0, 0, 0, -1, 0, 0, 0, -1);
     }
 
+    /** BODIES never change, whatever is made of them and whatever becomes of THE DRAFT, TILT and the rest. */
+    private static void neverChange() {
+        BodyCorners x = with("cube 2; cube 3; cube 4;");
+        int told = make(x, 3, 1, 2, 3, 9, 2, 3, 1, 8, 3, 1, 2, 7);
+        int[] before = seenOf(x, told);
+        due("a cut", x.cut(told, 1, 1, 1, 0, 9), 4);
+        due("a slice", x.slice(told, 2, 4), 5);
+        due("a shadow", x.shadow(told, 1), 6);
+        due("a prism", x.raise(told, 0, 9), 7);
+        due("a pyramid", x.raise(told, 1, 9), 8);
+        due("a double", x.raise(told, 2, 9), 9);
+        due("both", x.both(told, 1), 10);
+        due("both the other way", x.both(1, told), 11);
+        due("a product", x.product(0, 0), 12);
+        due("of other POINTS", make(x, 3, 5, 5, 5, 6, 5, 5, 5, 6, 5, 5, 5, 6), 13);
+        x.point(7, 7, 7, 7);
+        x.tilt(9, 9, 9, 9);
+        x.wipe();
+        x.ring(told, 0);
+        x.whole(told, 2, 1);
+        int[] after = seenOf(x, told);
+        for (int at = 0; at < before.length; at++) {
+            due("it has not changed, at " + at, after[at], before[at]);
+        }
+        places("its CORNERS", x, told, 1, 2, 3, 9, 2, 3, 1, 8, 3, 1, 2, 7);
+        places("a square", x, 0, 0, 0, 1, 0, 0, 1, 1, 1);
+    }
+
+    private static int[] seenOf(BodyCorners x, int i) {
+        int[] seen = new int[24];
+        for (int what = 0; what < 7; what++) {
+            seen[what] = x.about(i, what);
+        }
+        for (int k = 0; k < 4; k++) {
+            seen[7 + k] = x.faces(i, k);
+            seen[11 + k] = x.face(i, 2, k);
+            seen[15 + k] = x.face(i, 1, k);
+            seen[19 + k] = x.h(i, k);
+        }
+        seen[23] = (int) x.size(i);
+        return seen;
+    }
+
     /** SCALE is 1 but of a CUT and a SLICE, even where the BODY that it was made of has another. */
     private static void scaleOne() {
         BodyCorners x = with("cube 2; cross 3; corner 4; round 2 of 3;");
@@ -416,6 +459,39 @@ public final class BodyCornersEdges {
         due("TURNS of a prism", x.about(prism, 5), 12);
         due("TURNS of six CORNERS on a round", x.about(0, 5), 4);
         due("TURNS of a cube's half", x.about(x.raise(4, 1, 1), 5), 8);
+    }
+
+    /** As many CORNERS, but not as many FACETS: never the SAME PATTERN, nor INSIDE OUT, nor MADE. */
+    private static void notAsMany() {
+        BodyCorners x = with("cube 2; corner 2; corner 3; round 4 of 6;");
+        int pile = x.raise(0, 1, 1);
+        int twice = x.raise(1, 2, 1);
+        due("five CORNERS, five FACETS", x.about(pile, 1) * 10 + x.faces(pile, 2), 55);
+        due("five CORNERS, six FACETS", x.about(twice, 1) * 10 + x.faces(twice, 2), 56);
+        due("fewer FACETS", x.same(pile, twice), 0);
+        due("more FACETS", x.same(twice, pile), 0);
+        due("fewer FACETS, inside out", x.inside(pile, twice), 0);
+        due("more FACETS, inside out", x.inside(twice, pile), 0);
+        int prism = x.raise(1, 0, 1);
+        due("six CORNERS, five FACETS", x.about(prism, 1) * 10 + x.faces(prism, 2), 65);
+        due("as many FACETS as the other has CORNERS, not the other way", x.inside(prism, pile), 0);
+        due("likewise", x.inside(pile, prism), 0);
+        due("both ways", x.inside(prism, twice), 1);
+        int doubled = x.raise(2, 2, 1);
+        due("six of 4: 9 FACETS", x.faces(3, 3), 9);
+        due("six of 4: 8 FACETS", x.faces(doubled, 3), 8);
+        due("9 and 8", x.same(3, doubled), 0);
+        due("8 and 9", x.same(doubled, 3), 0);
+        int[] eight = new int[8];
+        for (int j = 0; j < 8; j++) {
+            eight[j] = x.face(doubled, 3, j);
+        }
+        due("MADE by the one that has as many", place(x, 4, 6, eight), 100 + doubled);
+        BodyCorners y = with("round 4 of 6;");
+        due("OPEN: not as many", place(y, 4, 6, eight), 0);
+        BodyCorners z = with("corner 3;");
+        z.raise(0, 2, 1);
+        due("OPEN: not as many, the other way", place(z, 4, 6, sixOfFour()), 0);
     }
 
     private static void insides() {
@@ -931,8 +1007,10 @@ public final class BodyCornersEdges {
         shadows();
         raises();
         productsAndBoths();
+        neverChange();
         scaleOne();
         sames();
+        notAsMany();
         insides();
         laws();
         twistedInFour();

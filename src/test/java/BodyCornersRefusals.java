@@ -348,11 +348,36 @@ public final class BodyCornersRefusals {
         State bow = text("round 2 of 16;");
         taken("16 POINTS", bow, x -> x.cut(0, 1, 0, 0, 0, 14), 1);
         refused("17 POINTS", bow, x -> x.cut(0, 2, 0, 0, 0, 29), FULL);
+        eachCutOff();
         taken("the 24th", () -> holding(23, 6, 3, 2, 8, 3), x -> x.cut(CUBE, 1, 1, 0, 0, 1), 23);
         refused("a 25th", BodyCornersRefusals::crowded, x -> x.cut(CUBE, 1, 1, 0, 0, 1), FULL);
         refused("NOT ahead of FULL", BodyCornersRefusals::crowded, x -> x.cut(CUBE, 1, 1, 0, 0, 0), NOT);
         refused("OUTSIDE ahead of FULL", BodyCornersRefusals::crowded, x -> x.cut(CUBE, 1, 1, 0, 0, 10000), OUTSIDE);
         refused("UNKNOWN ahead of FULL", BodyCornersRefusals::crowded, x -> x.cut(24, 1, 1, 0, 0, 1), UNKNOWN);
+    }
+
+    /**
+     * Each CORNER of 16 cut off: through those beside it 15 POINTS are left, since an EDGE that ends where it is b gives
+     * none; a place further out two EDGES give one each, and 17 are too many.
+     */
+    private static void eachCutOff() {
+        int[] round = ringOf(16);
+        for (int at = 0; at < round.length; at++) {
+            round[at] *= 3;
+        }
+        State state = one(2, round);
+        for (int c = 0; c < 16; c++) {
+            int before = (c + 15) % 16 * 2;
+            int behind = (c + 1) % 16 * 2;
+            int a0 = (round[behind + 1] - round[before + 1]) / 3;
+            int a1 = (round[before] - round[behind]) / 3;
+            int b = a0 * round[before] + a1 * round[before + 1];
+            BodyCorners x = state.make();
+            due("CORNER " + c + " cut off through those beside it", x.cut(0, a0, a1, 0, 0, b), 1);
+            due("15 of 16", x.about(1, 1), 15);
+            due("none made whole", x.about(1, 2), 1);
+            refused("CORNER " + c + " cut off further out", state, y -> y.cut(0, a0, a1, 0, 0, b + 1), FULL);
+        }
     }
 
     private static void cutLarge() {
@@ -432,6 +457,7 @@ public final class BodyCornersRefusals {
         refused("times 2 it is 1000", one(3, half), x -> x.slice(0, 2, 0), LARGE);
         taken("times 2 it is 998", one(3, 499, 0, 0, 0, 0, 0, 0, 1, -1, 0, 2, 1), x -> x.slice(0, 2, 0), 1);
         refused("FULL ahead of LARGE: 24 BODIES", oneOfAll(3, half), x -> x.slice(23, 2, 0), FULL);
+        leftOutIsNeverLarge();
         int[] wide = SPINDLE.clone();
         wide[0] = 5;
         wide[42] = 999;
@@ -447,6 +473,30 @@ public final class BodyCornersRefusals {
         refused("16 POINTS that are LARGE", one(4, wider), x -> x.slice(0, 3, 0), LARGE);
         refused("OUTSIDE ahead of LARGE", one(4, wider), x -> x.slice(0, 4, 0), OUTSIDE);
         refused("UNKNOWN ahead of LARGE", one(4, wider), x -> x.slice(1, 3, 0), UNKNOWN);
+    }
+
+    /** The coordinate that a SLICE leaves out is not in the new BODY: times SCALE it may be beyond 999. */
+    private static void leftOutIsNeverLarge() {
+        for (int d = 3; d <= 4; d++) {
+            for (int k = 0; k < d; k++) {
+                for (int side = -1; side <= 1; side += 2) {
+                    int[] numbers = new int[d * (d + 2)];
+                    for (int c = 0; c < d + 2; c++) {
+                        numbers[d * c + k] = side * (c == 0 ? 997 : c == d + 1 ? 998 : 999);
+                        if (c > 0 && c <= d) {
+                            numbers[d * c + (k + c) % d] += c < d ? 1 : 0;
+                        }
+                    }
+                    numbers[d * (d + 1) + (k + 1) % d] = 9;
+                    int axis = k;
+                    int c = side * 998;
+                    BodyCorners x = one(d, numbers).make();
+                    due("SLICE of " + d + " by " + k + " at " + c, x.slice(0, axis, c), 1);
+                    due("its SCALE", x.about(1, 2), 2);
+                    due("its D", x.about(1, 0), d - 1);
+                }
+            }
+        }
     }
 
     private static void shadow() {
@@ -513,6 +563,22 @@ public final class BodyCornersRefusals {
         taken("4 times 249", one(3, 0, 0, 0, 1, 0, 0, 0, 1, 0, 0, 0, 249), x -> x.raise(0, 2, 1), 1);
         refused("4 times 250", one(3, 0, 0, 0, 1, 0, 0, 0, 1, 0, 0, 0, 250), x -> x.raise(0, 2, 1), LARGE);
         refused("4 times -250", one(3, 0, 0, 0, 1, 0, 0, 0, -250, 0, 0, 0, 1), x -> x.raise(0, 2, 1), LARGE);
+        for (int d = 2; d <= 3; d++) {
+            int most = 999 / (d + 1);
+            for (int at = 0; at < d * (d + 1); at++) {
+                for (int side = -1; side <= 1; side += 2) {
+                    int[] numbers = new int[d * (d + 1)];
+                    for (int c = 0; c < d; c++) {
+                        numbers[d * (c + 1) + c] = 1;
+                    }
+                    numbers[at] = side * most;
+                    taken("just 999 or less, at " + at, one(d, numbers), x -> x.raise(0, 2, 1), 1);
+                    numbers = numbers.clone();
+                    numbers[at] = side * (most + 1);
+                    refused("more than 999, at " + at, one(d, numbers), x -> x.raise(0, 2, 1), LARGE);
+                }
+            }
+        }
         State wide = one(2, 999, 999, -999, 999, 0, -999);
         refused("even if their sum is small", wide, x -> x.raise(0, 2, 1), LARGE);
         taken("a PRISM is never LARGE", wide, x -> x.raise(0, 0, 99), 1);

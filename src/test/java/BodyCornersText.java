@@ -242,6 +242,7 @@ public final class BodyCornersText {
             fault("cube " + word + ";", 1, 5);
             fault(word, 1, 0);
         }
+        oneLetter();
         for (String word : new String[] {"o", "off", "all", "faces", "cube", "claim", "oof"}) {
             fault("round 2 " + word + " 5;", 1, 8);
             fault("round 2 " + word, 1, 8);
@@ -275,6 +276,42 @@ public final class BodyCornersText {
         fault("claim all faces 0 < ;", 1, 20);
         fault("claim all faces all < 9;", 1, 16);
         fault("claim all faces 0 < all;", 1, 20);
+    }
+
+    /** Words with one letter that is another one, wherever it is. */
+    private static void oneLetter() {
+        String[] ahead = {"", "", "", "", "", "round 2 ", "claim ", "claim all "};
+        String[] words = {"cube", "cross", "corner", "round", "claim", "of", "all", "faces"};
+        String[] behind = {" 3;", " 3;", " 3;", " 2 of 5;", " all faces 0 < 9;", " 5;", " faces 0 < 9;", " 0 < 9;"};
+        for (int w = 0; w < words.length; w++) {
+            done(ahead[w] + words[w] + behind[w], 1);
+            for (int k = 0; k < words[w].length(); k++) {
+                for (int step = -1; step <= 1; step += 2) {
+                    char letter = (char) (words[w].charAt(k) + step);
+                    if (letter >= 'a' && letter <= 'z') {
+                        String word = words[w].substring(0, k) + letter + words[w].substring(k + 1);
+                        fault(ahead[w] + word + behind[w], 1, ahead[w].length());
+                    }
+                }
+            }
+        }
+    }
+
+    /** The most clauses that a text can have are all looked at, and what stands behind them, too. */
+    private static void lastClauses() {
+        String short1 = "cube2;";
+        fault(short1.repeat(25) + "cube9;", 2, 154);
+        fault(short1.repeat(25) + "cub 2;", 1, 150);
+        fault(short1.repeat(26) + "x", 1, 156);
+        fault(short1.repeat(26) + "cube", 1, 160);
+        fault(short1.repeat(26) + "cub ", 1, 156);
+        fault(short1.repeat(26) + "   ?", 1, 159);
+        fault(short1.repeat(26) + ";", 1, 156);
+        BodyCorners x = new BodyCorners();
+        due("26 clauses and blanks", readAll(x, short1.repeat(26) + "    "), 24);
+        due("no FAULT", x.fault(), NONE);
+        BodyCorners y = with(NINE.repeat(8));
+        fault(y, short1.repeat(24) + "claim0faces0<9;", 3, 144);
     }
 
     /** A text that ends too early has its fault at its length, but for a word or a number that is none then. */
@@ -478,6 +515,7 @@ public final class BodyCornersText {
         signs();
         words();
         ends();
+        lastClauses();
         firstOnes();
         ninth();
         fullOnes();
