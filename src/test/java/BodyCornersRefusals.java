@@ -444,7 +444,13 @@ public final class BodyCornersRefusals {
         refused("17 POINTS", one(4, SPINDLE), x -> x.slice(0, 3, 0), FULL);
         taken("the 24th", () -> holding(23, 6, 3, 2, 8, 3), x -> x.slice(CUBE, 0, 1), 23);
         refused("a 25th", BodyCornersRefusals::crowded, x -> x.slice(CUBE, 0, 1), FULL);
-        refused("NOT ahead of FULL", BodyCornersRefusals::crowded, x -> x.slice(CUBE, 0, 2), NOT);
+        refused("NOT (below it) ahead of FULL", BodyCornersRefusals::crowded, x -> x.slice(CUBE, 0, 2), NOT);
+        refused("NOT (above it) ahead of FULL", BodyCornersRefusals::crowded, x -> x.slice(CUBE, 0, -1), NOT);
+        for (int side = -1; side <= 1; side += 2) {
+            int c = side;
+            refused("NOT (a CORNER) ahead of FULL", BodyCornersRefusals::crowded, x -> x.slice(CROSS, 1, c), NOT);
+            refused("NOT (a CORNER of 4) ahead of FULL", BodyCornersRefusals::crowded, x -> x.slice(CROSS_4, 3, c), NOT);
+        }
         refused("OUTSIDE ahead of FULL", BodyCornersRefusals::crowded, x -> x.slice(CUBE, 3, 1), OUTSIDE);
         refused("UNKNOWN ahead of FULL", BodyCornersRefusals::crowded, x -> x.slice(24, 0, 1), UNKNOWN);
     }
